@@ -118,6 +118,7 @@ public final class ExtendStore {
     public int recover() {
         live.copyFrom(masters[lastMaster]);
         down = false;
+        writesToCrash = 0;
         return 0;
     }
 

@@ -272,6 +272,7 @@ public final class ModelTest {
                     return 0;
                 case "recover":
                     down = false;
+                    crash = 0;
                     load();
                     return 0;
                 case "writes":

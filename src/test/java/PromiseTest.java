@@ -460,12 +460,38 @@ public final class PromiseTest {
         y.recover();
         y.put(1, 12);
         due("nothing came of it when down", y.sync(), 0);
+    }
 
-        ExtendStore z = new ExtendStore(20, 4);
-        z.crashAfter(1);
-        z.recover();
-        z.put(1, 5);
-        due("a crash that has not come stays set over a recovery", z.sync(), DOWN);
+    private static void promise12RecoverEndsCrash() {
+        int[] set = {1, 2, 3, Integer.MAX_VALUE};
+        for (int n : set) {
+            ExtendStore x = new ExtendStore(20, 4);
+            x.crashAfter(n);
+            due("recover before the crash came", x.recover(), 0);
+            for (int v = 1; v <= 3; v++) {
+                x.put(1, v);
+                due("no crash any more", x.sync(), 0);
+            }
+            due("all was written", x.writes(), 9);
+        }
+        ExtendStore part = new ExtendStore(20, 4);
+        part.crashAfter(4);
+        part.put(1, 5);
+        due("three of four writes", part.sync(), 0);
+        part.recover();
+        due("format after the recovery", part.format(), 0);
+
+        ExtendStore format = new ExtendStore(0, 0);
+        format.crashAfter(2);
+        due("format is no recovery", format.format(), DOWN);
+
+        ExtendStore later = new ExtendStore(20, 4);
+        later.crashAfter(1);
+        later.recover();
+        later.crashAfter(2);
+        later.put(1, 5);
+        due("a crash set behind the recovery comes", later.sync(), DOWN);
+        due("one write before it", later.writes(), 1);
     }
 
     private static void promise12Recover() {
@@ -571,6 +597,7 @@ public final class PromiseTest {
         promise10Refused();
         promise11CrashAfter();
         promise11CrashSetAgain();
+        promise12RecoverEndsCrash();
         promise12Recover();
         promise13Writes();
         promise14Free();
