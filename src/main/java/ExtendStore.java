@@ -6,6 +6,8 @@ public final class ExtendStore {
     private static final int MOST_BLOCKS = 200;
     private static final int LIMIT_OF_MOST_DEPTH = 8;
     private static final int MASTERS = 2;
+    private static final int FIRST_BUCKET_BLOCK = 2;
+    private static final int FIRST_DIRECTORY_BLOCK = 3;
     private static final int KEYS_A_BUCKET = 15;
     private static final int ENTRIES_A_BLOCK = 32;
     private static final int MULTIPLIER = 0x9E3779B1;
@@ -24,13 +26,11 @@ public final class ExtendStore {
         this.blocks = Math.max(LEAST_BLOCKS, Math.min(MOST_BLOCKS, blocks));
         this.mostDepth = Math.max(0, Math.min(LIMIT_OF_MOST_DEPTH, mostDepth));
         Bucket first = new Bucket(0);
-        first.block = MASTERS;
+        first.block = FIRST_BUCKET_BLOCK;
         live = new State(this.mostDepth, first);
-        live.directoryBlocks[0] = MASTERS + 1;
         masters = new State[MASTERS];
         for (int i = 0; i < MASTERS; i++) {
             masters[i] = new State(this.mostDepth, first);
-            masters[i].directoryBlocks[0] = MASTERS + 1;
         }
         taken = new boolean[this.blocks];
     }
@@ -306,6 +306,7 @@ public final class ExtendStore {
                 directory[i] = first;
             }
             directoryBlocks = new int[blocksOfDirectory(mostDepth)];
+            directoryBlocks[0] = FIRST_DIRECTORY_BLOCK;
             buckets = 1;
         }
 

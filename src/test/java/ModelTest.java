@@ -356,7 +356,8 @@ public final class ModelTest {
             case 2: return keyOf(numbers.below(24) << 8 | 1 << numbers.below(9));
             case 3: return keyOf(numbers.below(40) << numbers.below(8));
             case 4: return keyOf(numbers.below(3) << 12 | numbers.below(256));
-            default: return numbers.below(100) - 50;
+            case 5: return numbers.below(100) - 50;
+            default: return numbers.below(300) * 0x5BD1E995;
         }
     }
 
@@ -402,7 +403,7 @@ public final class ModelTest {
         Numbers numbers = new Numbers(run);
         int blocks = numbers.below(3) == 0 ? numbers.below(14) + 7 : numbers.below(200) + 1;
         int mostDepth = numbers.below(11) - 1;
-        int kind = numbers.below(6);
+        int kind = numbers.below(7);
         boolean sweeps = kind < 3 && numbers.below(2) == 0;
         ExtendStore store = new ExtendStore(blocks, mostDepth);
         Model model = new Model(blocks, mostDepth);
